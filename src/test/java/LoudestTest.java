@@ -1,0 +1,64 @@
+/** Promise 12: the loudest echo of all, or of those behind one. */
+public final class LoudestTest {
+    private static final Check CHECK = new Check();
+
+    public static void main(String[] args) {
+        ordinaryOnes();
+        louderThoughLater();
+        silentOnes();
+        wrongOnes();
+        CHECK.end();
+    }
+
+    private static RoomEchoes room() {
+        RoomEchoes room = new RoomEchoes(10, 8, 3);
+        room.source(3, 4, 2);
+        room.listener(7, 1, 2);
+        return room;
+    }
+
+    private static void ordinaryOnes() {
+        RoomEchoes room = room();
+        CHECK.due("loudest(NONE)", room.loudest(RoomEchoes.NONE), 0);
+        CHECK.due("loudest(0)", room.loudest(0), 1);
+        CHECK.due("loudest(1), of two the first", room.loudest(1), 2);
+        CHECK.due("loudest(2)", room.loudest(2), 3);
+        CHECK.due("loudest(498)", room.loudest(498), 499);
+        CHECK.due("loudest(499)", room.loudest(499), RoomEchoes.NONE);
+    }
+
+    /** In the corner eight images are at distance 0; the straight one, which has no hits, is the last. */
+    private static void louderThoughLater() {
+        RoomEchoes room = new RoomEchoes(10, 10, 10);
+        CHECK.due("loudest(NONE)", room.loudest(-1), 7);
+        CHECK.due("loudest(6)", room.loudest(6), 7);
+        CHECK.due("loudest(2)", room.loudest(2), 7);
+        CHECK.due("loudest(7) is behind it", room.loudest(7) > 7 ? 1 : 0, 1);
+        room.keeps(0, 1000);
+        CHECK.due("loudest(NONE), of two the first", room.loudest(-1), 3);
+        CHECK.due("loudest(3)", room.loudest(3), 7);
+        room.source(0, 0, 10);
+        room.keeps(0, 0);
+        CHECK.due("loudest(NONE) is the straight one", room.loudest(-1), room.place(0, 0, 0));
+    }
+
+    private static void silentOnes() {
+        RoomEchoes room = room();
+        for (int wall = 0; wall < 6; wall++) {
+            room.keeps(wall, 0);
+        }
+        CHECK.due("loudest(NONE)", room.loudest(-1), 0);
+        CHECK.due("loudest(0), all as silent", room.loudest(0), 1);
+        CHECK.due("loudest(100), all as silent", room.loudest(100), 101);
+        CHECK.due("loudest(498)", room.loudest(498), 499);
+        CHECK.due("loudest(499)", room.loudest(499), RoomEchoes.NONE);
+    }
+
+    private static void wrongOnes() {
+        RoomEchoes room = room();
+        for (int wrong : new int[] {-2, 500, Integer.MIN_VALUE, Integer.MAX_VALUE}) {
+            CHECK.illegal("loudest(" + wrong + ")", () -> room.loudest(wrong));
+            CHECK.due("nothing changed by it", room.loudest(1), 2);
+        }
+    }
+}
