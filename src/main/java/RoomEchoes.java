@@ -120,7 +120,7 @@ public final class RoomEchoes {
     public int place(int a, int b, int c) throws IllegalArgumentException {
         requireNumbers(a, b, c);
         orderEchoes();
-        long key = keyOf(a, b, c);
+        long key = keyOf(distanceOf(a, b, c), a, b, c);
         for (int k = 0; k < ECHOES; k++) {
             if (echoKeys[k] == key) {
                 return k;
@@ -133,18 +133,21 @@ public final class RoomEchoes {
 
     public int until(long distance) throws IllegalArgumentException {
         requireDistance(distance);
+        orderEchoes();
         return countWithin(distance);
     }
 
     public long loud(int from, int to) throws IllegalArgumentException {
         requireWithin(from, 0, ECHOES - 1);
         requireWithin(to, from, ECHOES - 1);
+        weighEchoes();
         return loudnessBetween(from, to + 1);
     }
 
     public long early(long distance, int part) throws IllegalArgumentException {
         requireDistance(distance);
         requireWithin(part, 0, 1);
+        weighEchoes();
         long all = loudnessBetween(0, ECHOES);
         long share = loudnessBetween(0, countWithin(distance));
         long divisor = greatestCommonDivisor(all, share);
@@ -157,6 +160,7 @@ public final class RoomEchoes {
 
     public int enough(int thousandths) throws IllegalArgumentException {
         requireWithin(thousandths, 0, WHOLE);
+        weighEchoes();
         long due = loudnessBetween(0, ECHOES) * thousandths;
         long soFar = 0;
         for (int k = 0; k < ECHOES; k++) {
@@ -261,8 +265,8 @@ public final class RoomEchoes {
 
     // ---- keys
 
-    private long keyOf(int a, int b, int c) {
-        long key = withNumberBelow(distanceOf(a, b, c), a);
+    private static long keyOf(long distance, int a, int b, int c) {
+        long key = withNumberBelow(distance, a);
         key = withNumberBelow(key, b);
         return withNumberBelow(key, c);
     }
@@ -332,7 +336,8 @@ public final class RoomEchoes {
 
     private void addAtRanks(int i, int j, int m) {
         if (i < NUMBERS && j < NUMBERS && m < NUMBERS) {
-            frontier.add(keyOf(first.numberAt(i), second.numberAt(j), third.numberAt(m)));
+            long distance = first.squareAt(i) + second.squareAt(j) + third.squareAt(m);
+            frontier.add(keyOf(distance, first.numberAt(i), second.numberAt(j), third.numberAt(m)));
         }
     }
 
@@ -349,8 +354,9 @@ public final class RoomEchoes {
         weighed = true;
     }
 
+    // ---- over echoes that the caller has put in order and weighed
+
     private int countWithin(long distance) {
-        orderEchoes();
         int count = 0;
         while (count < ECHOES && distanceIn(echoKeys[count]) <= distance) {
             count++;
@@ -359,7 +365,6 @@ public final class RoomEchoes {
     }
 
     private long loudnessBetween(int from, int end) {
-        weighEchoes();
         long sum = 0;
         for (int k = Math.max(0, from); k < end && k < ECHOES; k++) {
             sum += loudnesses[k];
@@ -427,6 +432,10 @@ public final class RoomEchoes {
                 at--;
             }
             ranked[at] = key;
+        }
+
+        long squareAt(int rank) {
+            return rank >= 0 && rank < NUMBERS ? ranked[rank] >> NUMBER_BITS : 0;
         }
 
         int numberAt(int rank) {

@@ -1,4 +1,5 @@
 import java.util.ArrayList;
+import java.util.Arrays;
 import java.util.List;
 import java.util.Random;
 
@@ -40,9 +41,9 @@ public final class AgainstPlainRoomTest {
     }
 
     private static String name(Setting setting, String call) {
-        return java.util.Arrays.toString(setting.size()) + java.util.Arrays.toString(setting.source())
-                + java.util.Arrays.toString(setting.listener())
-                + java.util.Arrays.toString(setting.keeps()) + " " + call;
+        return Arrays.toString(setting.size()) + Arrays.toString(setting.source())
+                + Arrays.toString(setting.listener())
+                + Arrays.toString(setting.keeps()) + " " + call;
     }
 
     private static void echoes(Setting setting, PlainRoom plain) {

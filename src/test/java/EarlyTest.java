@@ -15,15 +15,8 @@ public final class EarlyTest {
         CHECK.due("early(" + distance + ", 1)", room.early(distance, 1), below);
     }
 
-    private static RoomEchoes room() {
-        RoomEchoes room = new RoomEchoes(10, 8, 3);
-        room.source(3, 4, 2);
-        room.listener(7, 1, 2);
-        return room;
-    }
-
     private static void ordinaryShares() {
-        RoomEchoes room = room();
+        RoomEchoes room = Setting.ordinaryRoom();
         share(room, 0, 0, 1);
         share(room, 24, 0, 1);
         share(room, 25, 38461538, 850752019);
@@ -74,7 +67,7 @@ public final class EarlyTest {
     }
 
     private static void wrongOnes() {
-        RoomEchoes room = room();
+        RoomEchoes room = Setting.ordinaryRoom();
         long[][] wrong = {{-1, 0}, {-1, 1}, {Long.MIN_VALUE, 0}, {0, -1}, {0, 2}, {25, 2}, {25, -1},
             {25, Integer.MAX_VALUE}, {25, Integer.MIN_VALUE}, {-1, 2}};
         for (long[] pair : wrong) {

@@ -10,15 +10,8 @@ public final class EnoughTest {
         CHECK.end();
     }
 
-    private static RoomEchoes room() {
-        RoomEchoes room = new RoomEchoes(10, 8, 3);
-        room.source(3, 4, 2);
-        room.listener(7, 1, 2);
-        return room;
-    }
-
     private static void ordinaryOnes() {
-        RoomEchoes room = room();
+        RoomEchoes room = Setting.ordinaryRoom();
         int[][] due = {{0, 0}, {1, 0}, {45, 0}, {46, 1}, {500, 60}, {900, 339}, {999, 498}, {1000, 499}};
         for (int[] pair : due) {
             CHECK.due("enough(" + pair[0] + ")", room.enough(pair[0]), pair[1]);
@@ -47,7 +40,7 @@ public final class EnoughTest {
     }
 
     private static void nothingBehindTheStraightWay() {
-        RoomEchoes room = room();
+        RoomEchoes room = Setting.ordinaryRoom();
         for (int wall = 0; wall < 6; wall++) {
             room.keeps(wall, 0);
         }
@@ -65,7 +58,7 @@ public final class EnoughTest {
     }
 
     private static void wrongOnes() {
-        RoomEchoes room = room();
+        RoomEchoes room = Setting.ordinaryRoom();
         for (int wrong : new int[] {-1, 1001, Integer.MIN_VALUE, Integer.MAX_VALUE}) {
             CHECK.illegal("enough(" + wrong + ")", () -> room.enough(wrong));
             CHECK.due("nothing changed by it", room.enough(500), 60);

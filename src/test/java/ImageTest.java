@@ -13,15 +13,8 @@ public final class ImageTest {
         CHECK.end();
     }
 
-    private static RoomEchoes room() {
-        RoomEchoes room = new RoomEchoes(10, 8, 3);
-        room.source(3, 4, 2);
-        room.listener(7, 1, 2);
-        return room;
-    }
-
     private static void distances() {
-        RoomEchoes room = room();
+        RoomEchoes room = Setting.ordinaryRoom();
         CHECK.due("image(0, 0, 0, 0)", room.image(0, 0, 0, 0), 25);
         CHECK.due("image(1, 0, 0, 0): 17", room.image(1, 0, 0, 0), 109);
         CHECK.due("image(-1, 0, 0, 0): -3", room.image(-1, 0, 0, 0), 109);
@@ -39,7 +32,7 @@ public final class ImageTest {
 
     /** Each wall with its own factor, so that a hit counted for another wall would show. */
     private static void strengths() {
-        RoomEchoes room = room();
+        RoomEchoes room = Setting.ordinaryRoom();
         int[] keeps = {500, 200, 100, 400, 1000, 0};
         for (int wall = 0; wall < 6; wall++) {
             room.keeps(wall, keeps[wall]);
@@ -57,7 +50,7 @@ public final class ImageTest {
     }
 
     private static void roundedAtEachHit() {
-        RoomEchoes room = room();
+        RoomEchoes room = Setting.ordinaryRoom();
         CHECK.due("image(2, -3, 5, 1)", room.image(2, -3, 5, 1), 348678440);
         CHECK.due("image(40, 40, 40, 1)", room.image(40, 40, 40, 1), 3225);
         room.keeps(0, 7);
@@ -69,7 +62,7 @@ public final class ImageTest {
     }
 
     private static void loudnesses() {
-        RoomEchoes room = room();
+        RoomEchoes room = Setting.ordinaryRoom();
         CHECK.due("image(0, 0, 0, 2)", room.image(0, 0, 0, 2), 1000000000 / 26);
         CHECK.due("image(-1, 0, 0, 2)", room.image(-1, 0, 0, 2), 900000000 / 110);
         CHECK.due("image(40, 40, 40, 2)", room.image(40, 40, 40, 2), 0);
@@ -78,7 +71,7 @@ public final class ImageTest {
     }
 
     private static void hits() {
-        RoomEchoes room = room();
+        RoomEchoes room = Setting.ordinaryRoom();
         CHECK.due("image(0, 0, 0, 3)", room.image(0, 0, 0, 3), 0);
         CHECK.due("image(2, -3, 5, 3)", room.image(2, -3, 5, 3), 10);
         CHECK.due("image(-1, 1, -1, 3)", room.image(-1, 1, -1, 3), 3);
@@ -101,7 +94,7 @@ public final class ImageTest {
     }
 
     private static void wrongOnes() {
-        RoomEchoes room = room();
+        RoomEchoes room = Setting.ordinaryRoom();
         int[][] wrong = {{-41, 0, 0, 0}, {41, 0, 0, 0}, {0, -41, 0, 0}, {0, 41, 0, 0},
             {0, 0, -41, 0}, {0, 0, 41, 0}, {0, 0, 0, -1}, {0, 0, 0, 4}, {0, 0, 0, 5}, {0, 0, 0, 6},
             {Integer.MIN_VALUE, 0, 0, 3}, {0, Integer.MAX_VALUE, 0, 2}, {0, 0, Integer.MIN_VALUE, 1},

@@ -10,15 +10,8 @@ public final class LoudestTest {
         CHECK.end();
     }
 
-    private static RoomEchoes room() {
-        RoomEchoes room = new RoomEchoes(10, 8, 3);
-        room.source(3, 4, 2);
-        room.listener(7, 1, 2);
-        return room;
-    }
-
     private static void ordinaryOnes() {
-        RoomEchoes room = room();
+        RoomEchoes room = Setting.ordinaryRoom();
         CHECK.due("loudest(NONE)", room.loudest(RoomEchoes.NONE), 0);
         CHECK.due("loudest(0)", room.loudest(0), 1);
         CHECK.due("loudest(1), of two the first", room.loudest(1), 2);
@@ -43,7 +36,7 @@ public final class LoudestTest {
     }
 
     private static void silentOnes() {
-        RoomEchoes room = room();
+        RoomEchoes room = Setting.ordinaryRoom();
         for (int wall = 0; wall < 6; wall++) {
             room.keeps(wall, 0);
         }
@@ -55,7 +48,7 @@ public final class LoudestTest {
     }
 
     private static void wrongOnes() {
-        RoomEchoes room = room();
+        RoomEchoes room = Setting.ordinaryRoom();
         for (int wrong : new int[] {-2, 500, Integer.MIN_VALUE, Integer.MAX_VALUE}) {
             CHECK.illegal("loudest(" + wrong + ")", () -> room.loudest(wrong));
             CHECK.due("nothing changed by it", room.loudest(1), 2);

@@ -35,6 +35,14 @@ record Setting(int[] size, int[] source, int[] listener, int[] keeps) {
         return new Setting(size, source, listener, keeps);
     }
 
+    /** A new object, two calls old, with the distance 25 straight from source to listener. */
+    static RoomEchoes ordinaryRoom() {
+        RoomEchoes room = new RoomEchoes(10, 8, 3);
+        room.source(3, 4, 2);
+        room.listener(7, 1, 2);
+        return room;
+    }
+
     /** A new object, eight calls old. */
     RoomEchoes make() {
         RoomEchoes room = new RoomEchoes(size[0], size[1], size[2]);
