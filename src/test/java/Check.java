@@ -18,6 +18,23 @@ final class Check {
         }
     }
 
+    /** The call must answer, and with what is due. */
+    void answers(String call, LongSupplier made, long want) {
+        try {
+            due(call, made.getAsLong(), want);
+        } catch (RuntimeException thrown) {
+            wrong++;
+            System.out.println(call + " threw " + thrown + ", due is " + want);
+        }
+    }
+
+    void takes(String call, Runnable made) {
+        answers(call, () -> {
+            made.run();
+            return 0;
+        }, 0);
+    }
+
     /** The call must throw IllegalArgumentException, and that very class. */
     void illegal(String call, LongSupplier made) {
         try {

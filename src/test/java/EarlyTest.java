@@ -4,9 +4,12 @@ public final class EarlyTest {
 
     public static void main(String[] args) {
         ordinaryShares();
+        atMostSuchADistance();
         lowestTerms();
+        lowestTermsAboveEveryInt();
         noLoudnessAtAll();
-        wrongOnes();
+        distanceBelowZero();
+        partOutOfBounds();
         CHECK.end();
     }
 
@@ -26,6 +29,27 @@ public final class EarlyTest {
         share(room, 945, 1, 1);
         share(room, 1L << 40, 1, 1);
         share(room, Long.MAX_VALUE, 1, 1);
+    }
+
+    /** An echo has its share from its own distance on, and not one below it. */
+    private static void atMostSuchADistance() {
+        RoomEchoes told = Setting.ordinaryRoom();
+        for (int k = 1; k < 100; k++) {
+            long distance = told.echo(k, 0);
+            if (told.echo(k - 1, 0) == distance) {
+                continue;
+            }
+            RoomEchoes room = Setting.ordinaryRoom();
+            long ahead = room.loud(0, k - 1);
+            isShare(room, distance - 1, ahead);
+            isShare(room, distance, room.loud(0, room.until(distance) - 1));
+        }
+    }
+
+    private static void isShare(RoomEchoes room, long distance, long share) {
+        long above = room.early(distance, 0);
+        long below = room.early(distance, 1);
+        CHECK.due("early(" + distance + ", 0) times all", above * room.loud(0, 499), share * below);
     }
 
     /** Walls that keep nothing leave the straight way and those by one wall that keeps something. */
@@ -49,6 +73,21 @@ public final class EarlyTest {
         share(room, 0, 20, 21);
     }
 
+    /** Where every wall keeps all, the eight images in a corner have 8000000000 of 46916129936. */
+    private static void lowestTermsAboveEveryInt() {
+        RoomEchoes room = new RoomEchoes(1, 1, 1);
+        for (int wall = 0; wall < 6; wall++) {
+            room.keeps(wall, 1000);
+        }
+        CHECK.due("loud(0, 499)", room.loud(0, 499), 46916129936L);
+        share(room, 0, 500000000, 2932258121L);
+        share(room, 3, 500000000, 2932258121L);
+        share(room, 4, 1100000000, 2932258121L);
+        share(room, 7, 1100000000, 2932258121L);
+        share(room, 8, 1766666666, 2932258121L);
+        share(room, 1L << 32, 1, 1);
+    }
+
     /**
      * The straight way has no hits and is always among the echoes, so all loudness is never 0; none
      * at all is heard only up to a distance that no echo with loudness has.
@@ -66,14 +105,26 @@ public final class EarlyTest {
         share(room, Long.MAX_VALUE, 1, 1);
     }
 
-    private static void wrongOnes() {
+    private static void refused(long distance, int part) {
         RoomEchoes room = Setting.ordinaryRoom();
-        long[][] wrong = {{-1, 0}, {-1, 1}, {Long.MIN_VALUE, 0}, {0, -1}, {0, 2}, {25, 2}, {25, -1},
-            {25, Integer.MAX_VALUE}, {25, Integer.MIN_VALUE}, {-1, 2}};
-        for (long[] pair : wrong) {
-            String call = "early(" + pair[0] + ", " + pair[1] + ")";
-            CHECK.illegal(call, () -> room.early(pair[0], (int) pair[1]));
-            share(room, 25, 38461538, 850752019);
+        String call = "early(" + distance + ", " + part + ")";
+        CHECK.illegal(call, () -> room.early(distance, part));
+        share(room, 25, 38461538, 850752019);
+    }
+
+    private static void distanceBelowZero() {
+        for (long below : new long[] {-1, -2, Integer.MIN_VALUE, -(1L << 32), Long.MIN_VALUE + 1, Long.MIN_VALUE}) {
+            refused(below, 0);
+            refused(below, 1);
+            refused(below, 2);
+        }
+    }
+
+    private static void partOutOfBounds() {
+        for (int part : new int[] {-1, 2, 3, Integer.MIN_VALUE, Integer.MAX_VALUE}) {
+            refused(0, part);
+            refused(25, part);
+            refused(Long.MAX_VALUE, part);
         }
     }
 }

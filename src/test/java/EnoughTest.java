@@ -4,7 +4,10 @@ public final class EnoughTest {
 
     public static void main(String[] args) {
         ordinaryOnes();
+        theLeast();
         justAsMuch();
+        justTooLittle();
+        allAboveEveryInt();
         nothingBehindTheStraightWay();
         wrongOnes();
         CHECK.end();
@@ -20,6 +23,48 @@ public final class EnoughTest {
         CHECK.due("enough(1000) without wall 0", room.enough(1000), 498);
         room.listener(3, 4, 2);
         CHECK.due("enough(1) at the source", room.enough(1), 0);
+    }
+
+    /** "The least k": echoes 0 to k have as much, echoes 0 to k - 1 do not. */
+    private static void theLeast() {
+        RoomEchoes room = Setting.ordinaryRoom();
+        long all = room.loud(0, 499);
+        for (int thousandths = 1; thousandths <= 1000; thousandths += 9) {
+            int k = room.enough(thousandths);
+            CHECK.due("echoes 0 to " + k + " have " + thousandths,
+                    room.loud(0, k) * 1000 >= all * thousandths ? 1 : 0, 1);
+            CHECK.due("echoes 0 to " + (k - 1) + " do not",
+                    k == 0 || room.loud(0, k - 1) * 1000 < all * thousandths ? 1 : 0, 1);
+        }
+    }
+
+    /** In the corner opposite wall 0's image has 332, the straight way 333: 500 are 332.5 of 665. */
+    private static void justTooLittle() {
+        RoomEchoes room = new RoomEchoes(1000, 1000, 1000);
+        room.listener(1000, 1000, 1000);
+        room.keeps(0, 997);
+        for (int wall = 1; wall < 6; wall++) {
+            room.keeps(wall, 0);
+        }
+        int byWall = room.place(-1, 0, 0);
+        int straight = room.place(0, 0, 0);
+        CHECK.due("loud up to the image", room.loud(0, byWall), 332);
+        CHECK.due("loud(0, 499)", room.loud(0, 499), 665);
+        CHECK.due("enough(1)", room.enough(1), byWall);
+        CHECK.due("enough(499)", room.enough(499), byWall);
+        CHECK.due("enough(500)", room.enough(500), straight);
+        CHECK.due("enough(1000)", room.enough(1000), straight);
+    }
+
+    private static void allAboveEveryInt() {
+        RoomEchoes room = new RoomEchoes(1, 1, 1);
+        for (int wall = 0; wall < 6; wall++) {
+            room.keeps(wall, 1000);
+        }
+        int[][] due = {{0, 0}, {1, 0}, {21, 0}, {22, 1}, {100, 4}, {500, 108}, {501, 109}, {999, 498}, {1000, 499}};
+        for (int[] pair : due) {
+            CHECK.due("enough(" + pair[0] + ")", room.enough(pair[0]), pair[1]);
+        }
     }
 
     /** With the source in wall 5 the image 0, 0, 1 is where it is itself: half of all each. */
@@ -59,7 +104,7 @@ public final class EnoughTest {
 
     private static void wrongOnes() {
         RoomEchoes room = Setting.ordinaryRoom();
-        for (int wrong : new int[] {-1, 1001, Integer.MIN_VALUE, Integer.MAX_VALUE}) {
+        for (int wrong : new int[] {-1, -2, 1001, 1002, Integer.MIN_VALUE, Integer.MAX_VALUE}) {
             CHECK.illegal("enough(" + wrong + ")", () -> room.enough(wrong));
             CHECK.due("nothing changed by it", room.enough(500), 60);
         }

@@ -4,6 +4,7 @@ public final class KeepsTest {
 
     public static void main(String[] args) {
         answersWhatItKept();
+        answersWhatItKeptLast();
         eachWallTakesItsOwn();
         loudnessFollows();
         wrongOnesChangeNothing();
@@ -20,6 +21,21 @@ public final class KeepsTest {
         for (int wall = 0; wall < 6; wall++) {
             CHECK.due("keeps(" + wall + ", 1) again", room.keeps(wall, 1), wall);
         }
+    }
+
+    /** "what it kept" is what was last taken of that wall: not of another, not what was refused. */
+    private static void answersWhatItKeptLast() {
+        RoomEchoes room = new RoomEchoes(10, 8, 3);
+        CHECK.due("keeps(2, 300)", room.keeps(2, 300), 900);
+        CHECK.due("keeps(2, 300) once more", room.keeps(2, 300), 300);
+        CHECK.due("keeps(3, 400)", room.keeps(3, 400), 900);
+        CHECK.due("keeps(2, 900)", room.keeps(2, 900), 300);
+        CHECK.illegal("keeps(2, 1001)", () -> room.keeps(2, 1001));
+        CHECK.illegal("keeps(2, -1)", () -> room.keeps(2, -1));
+        CHECK.due("keeps(2, 0) behind refused ones", room.keeps(2, 0), 900);
+        CHECK.due("keeps(2, 1000)", room.keeps(2, 1000), 0);
+        CHECK.due("keeps(2, 1)", room.keeps(2, 1), 1000);
+        CHECK.due("keeps(3, 1)", room.keeps(3, 1), 400);
     }
 
     /** The images with one hit alone: -1 hits the wall at 0, 1 the wall at the size. */

@@ -4,7 +4,9 @@ public final class LoudestTest {
 
     public static void main(String[] args) {
         ordinaryOnes();
+        ofSeveralTheFirst();
         louderThoughLater();
+        noneBehind();
         silentOnes();
         wrongOnes();
         CHECK.end();
@@ -18,6 +20,30 @@ public final class LoudestTest {
         CHECK.due("loudest(2)", room.loudest(2), 3);
         CHECK.due("loudest(498)", room.loudest(498), 499);
         CHECK.due("loudest(499)", room.loudest(499), RoomEchoes.NONE);
+    }
+
+    /** Where walls keep all, the eight images in a corner are as loud: each time the next of them. */
+    private static void ofSeveralTheFirst() {
+        RoomEchoes room = new RoomEchoes(1, 1, 1);
+        for (int wall = 0; wall < 6; wall++) {
+            room.keeps(wall, 1000);
+        }
+        for (int k = RoomEchoes.NONE; k < 30; k++) {
+            CHECK.due("loudest(" + k + ")", room.loudest(k), k + 1);
+        }
+        CHECK.due("echo 7 is louder than echo 8", room.echo(7, 2) > room.echo(8, 2) ? 1 : 0, 1);
+    }
+
+    /** Behind the last one there is none, whatever there is ahead. */
+    private static void noneBehind() {
+        for (int keeps : new int[] {0, 900, 1000}) {
+            RoomEchoes room = new RoomEchoes(10, 8, 3);
+            for (int wall = 0; wall < 6; wall++) {
+                room.keeps(wall, keeps);
+            }
+            CHECK.due("loudest(498)", room.loudest(498), 499);
+            CHECK.due("loudest(499)", room.loudest(499), RoomEchoes.NONE);
+        }
     }
 
     /** In the corner eight images are at distance 0; the straight one, which has no hits, is the last. */
@@ -49,7 +75,7 @@ public final class LoudestTest {
 
     private static void wrongOnes() {
         RoomEchoes room = Setting.ordinaryRoom();
-        for (int wrong : new int[] {-2, 500, Integer.MIN_VALUE, Integer.MAX_VALUE}) {
+        for (int wrong : new int[] {-2, -3, 500, 501, Integer.MIN_VALUE, Integer.MAX_VALUE}) {
             CHECK.illegal("loudest(" + wrong + ")", () -> room.loudest(wrong));
             CHECK.due("nothing changed by it", room.loudest(1), 2);
         }

@@ -40,6 +40,10 @@ final class PlainRoom {
         }
     }
 
+    int kept(int wall) {
+        return setting.keeps()[wall];
+    }
+
     private long position(int axis, int n) {
         long w = setting.size()[axis];
         long s = setting.source()[axis];

@@ -46,11 +46,16 @@ record Setting(int[] size, int[] source, int[] listener, int[] keeps) {
     /** A new object, eight calls old. */
     RoomEchoes make() {
         RoomEchoes room = new RoomEchoes(size[0], size[1], size[2]);
+        setIn(room);
+        return room;
+    }
+
+    /** Eight calls on an object of these sizes, whatever was set in it before. */
+    void setIn(RoomEchoes room) {
         room.source(source[0], source[1], source[2]);
         room.listener(listener[0], listener[1], listener[2]);
         for (int wall = 0; wall < 6; wall++) {
             room.keeps(wall, keeps[wall]);
         }
-        return room;
     }
 }
