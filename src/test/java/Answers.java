@@ -1,7 +1,7 @@
 import java.util.ArrayList;
 import java.util.List;
 
-/** What a caller sees of an object: its answers to some of every call, in 147 calls. */
+/** What a caller sees of an object: its answers to some of every call, in 175 calls. */
 final class Answers {
     private static final int[] ECHOES = {0, 1, 7, 60, 250, 498, 499};
     private static final int[][] IMAGES = {{0, 0, 0}, {-1, 0, 0}, {1, 0, 0}, {0, -1, 0}, {0, 1, 0},
@@ -16,11 +16,16 @@ final class Answers {
         this.room = room;
     }
 
+    /**
+     * How much is asked first, while the walls are as they were left, and last, so that the object
+     * has it all worked out again.
+     */
     static Answers of(RoomEchoes room) {
         Answers told = new Answers(room);
-        told.askKeeps();
+        told.askHowMuch();
         told.askImages();
         told.askEchoes();
+        told.askKeeps();
         told.askHowMuch();
         return told;
     }
