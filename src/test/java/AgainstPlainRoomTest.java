@@ -30,6 +30,10 @@ public final class AgainstPlainRoomTest {
                 Setting.of(1000, 1, 1000).source(1000, 1, 0).keeps(0, 0, 0, 0, 0, 0),
                 Setting.of(1000, 1000, 1).listener(7, 999, 1).keeps(1000, 1000, 1000, 1000, 1000, 1000),
                 Setting.of(1, 1000, 1).source(0, 1000, 1).listener(1, 0, 0),
+                Setting.of(1, 1, 1000).source(0, 0, 500).listener(0, 0, 500),
+                Setting.of(1, 1, 1000).source(1, 0, 500).listener(0, 1, 499),
+                Setting.of(1000, 1, 1).source(500, 0, 0).listener(500, 0, 1),
+                Setting.of(1, 1000, 1).source(0, 500, 0).listener(1, 500, 0),
                 Setting.of(1, 2, 40).source(0, 1, 39).listener(1, 1, 40),
                 Setting.of(2, 2, 2).source(1, 1, 1).listener(1, 1, 1),
                 Setting.of(10, 8, 3).source(0, 0, 0).listener(10, 8, 3).keeps(0, 0, 0, 0, 0, 0)));
