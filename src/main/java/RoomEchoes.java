@@ -482,8 +482,10 @@ public final class RoomEchoes {
 
         private void sinkFromTop(long key) {
             int at = 0;
-            while (2 * at + 1 < size) {
-                int below = lesserOf(2 * at + 1);
+            for (int below = 1; below < size; below = 2 * at + 1) {
+                if (below + 1 < size && keys[below + 1] < keys[below]) {
+                    below++;
+                }
                 if (keys[below] >= key) {
                     break;
                 }
@@ -491,11 +493,6 @@ public final class RoomEchoes {
                 at = below;
             }
             keys[at] = key;
-        }
-
-        private int lesserOf(int left) {
-            int right = left + 1;
-            return right < size && keys[right] < keys[left] ? right : left;
         }
     }
 }

@@ -13,6 +13,9 @@ public final class FaceTest {
         check.due("the class is", Modifier.toString(face.getModifiers()), "public final");
         check.due("NONE", RoomEchoes.NONE, -1);
         check.due("the visible members", visibleMembers(face).toString(), dueMembers().toString());
+        check.due("the class above it", face.getSuperclass().getName(), "java.lang.Object");
+        check.due("interfaces of it", face.getInterfaces().length, 0);
+        check.due("classes inside that a caller can reach", reachableInside(face).toString(), "[]");
         check.due("private methods with a public one's name", namesTwice(face), 0);
         check.end();
     }
@@ -53,6 +56,16 @@ public final class FaceTest {
             }
         }
         return members;
+    }
+
+    private static TreeSet<String> reachableInside(Class<?> face) {
+        TreeSet<String> reachable = new TreeSet<>();
+        for (Class<?> inside : face.getDeclaredClasses()) {
+            if (!Modifier.isPrivate(inside.getModifiers())) {
+                reachable.add(inside.getName());
+            }
+        }
+        return reachable;
     }
 
     private static int namesTwice(Class<?> face) {

@@ -1,6 +1,8 @@
 import com.sun.source.tree.BinaryTree;
 import com.sun.source.tree.ClassTree;
 import com.sun.source.tree.CompilationUnitTree;
+import com.sun.source.tree.DoWhileLoopTree;
+import com.sun.source.tree.ForLoopTree;
 import com.sun.source.tree.LiteralTree;
 import com.sun.source.tree.MethodInvocationTree;
 import com.sun.source.tree.MethodTree;
@@ -9,9 +11,11 @@ import com.sun.source.tree.NewClassTree;
 import com.sun.source.tree.ThrowTree;
 import com.sun.source.tree.Tree;
 import com.sun.source.tree.VariableTree;
+import com.sun.source.tree.WhileLoopTree;
 import com.sun.source.util.JavacTask;
 import com.sun.source.util.TreePath;
 import com.sun.source.util.TreePathScanner;
+import com.sun.source.util.TreeScanner;
 import com.sun.source.util.Trees;
 import java.io.File;
 import java.io.IOException;
@@ -198,6 +202,37 @@ public final class LanguageTest extends TreePathScanner<Void, Void> {
         String type = trees.getTypeMirror(getCurrentPath()).toString();
         holds(at(tree) + "texts are not joined by + (rule 10)", !type.endsWith("String"));
         return super.visitBinary(tree, nothing);
+    }
+
+    @Override
+    public Void visitWhileLoop(WhileLoopTree tree, Void nothing) {
+        stepsByItself(tree.getStatement());
+        return super.visitWhileLoop(tree, nothing);
+    }
+
+    @Override
+    public Void visitDoWhileLoop(DoWhileLoopTree tree, Void nothing) {
+        stepsByItself(tree.getStatement());
+        return super.visitDoWhileLoop(tree, nothing);
+    }
+
+    @Override
+    public Void visitForLoop(ForLoopTree tree, Void nothing) {
+        holds(at(tree) + "a for has a bound and a step (rule 9)",
+                tree.getCondition() != null && !tree.getUpdate().isEmpty());
+        tree.getUpdate().forEach(this::stepsByItself);
+        return super.visitForLoop(tree, nothing);
+    }
+
+    /** How a loop comes nearer to its end can be seen from its own lines if no call makes the step. */
+    private void stepsByItself(Tree step) {
+        new TreeScanner<Void, Void>() {
+            @Override
+            public Void visitMethodInvocation(MethodInvocationTree call, Void nothing) {
+                holds(at(call) + call + " makes no loop's step (rule 9)", false);
+                return null;
+            }
+        }.scan(step, null);
     }
 
     private boolean inConstructor() {
